@@ -41,9 +41,9 @@ public final class OneRoom {
     private final House[] images = new House[IMAGES];
     private final boolean[] kept = new boolean[IMAGES];
     private final Text text = new Text();
-    private final Night tonight = new Night(home);
-    private final Search search = new Search(tonight);
-    private final Hush hush = new Hush(home);
+    private final Night tonight = new Night();
+    private final Search search = new Search();
+    private final Hush hush = new Hush();
     private final Reach reach = new Reach();
     private final int[] far = new int[CELLS];
     private final int[] refusals = new int[3];
@@ -897,11 +897,7 @@ public final class OneRoom {
         final int[] due = new int[SLOTS];
         /** What a NOISE loses from a bed to the bed of who listens. */
         final int[][] losses = new int[BEDS][BEDS];
-        private Floor floor;
-
-        Ears(Floor floor) {
-            this.floor = floor;
-        }
+        private Floor floor = new Floor();
 
         void measure(Floor of) {
             floor = of;
@@ -976,24 +972,18 @@ public final class OneRoom {
         final int[] wakings = new int[SLEEPERS];
         final int[][] woken = new int[SLEEPERS][SLOTS];
         final int[][] seen = new int[SLEEPERS][SLOTS];
-        final Ears ears;
+        final Ears ears = new Ears();
         private final int[] state = new int[SLEEPERS];
         private final int[] fell = new int[SLEEPERS];
         private final int[] quiet = new int[SLEEPERS];
-        private People people;
-        private Sounds sounds;
+        private People people = new People();
+        private Sounds sounds = new Sounds();
         /** Bits of those who come or go, who are AWAKE, who snore, in this SLOT ahead of 4. */
         private int walking;
         private int awake;
         private int snoring;
         private int loudest;
         private int by;
-
-        Night(House house) {
-            people = house.people;
-            sounds = house.sounds;
-            ears = new Ears(house.floor);
-        }
 
         /** The ears are told of the house apart, as many rows of beds are passed in one house. */
         void pass(House house) {
@@ -1199,11 +1189,7 @@ public final class OneRoom {
         private boolean found;
         private final int[] row = new int[SLEEPERS];
         private final House trial = new House();
-        private final Night night;
-
-        Search(Night night) {
-            this.night = night;
-        }
+        private final Night night = new Night();
 
         boolean findBeds(House house, boolean rules) {
             start(house);
@@ -1297,15 +1283,11 @@ public final class OneRoom {
         int greatest;
         int steps;
         int second;
-        private final Ears ears;
+        private final Ears ears = new Ears();
         private final Reach reach = new Reach();
         private final int[] loud = new int[CELLS];
         private final boolean[] closed = new boolean[CELLS];
         private final int[] far = new int[CELLS];
-
-        Hush(House house) {
-            ears = new Ears(house.floor);
-        }
 
         boolean find(House house, int a, int b) {
             listenIn(house);
