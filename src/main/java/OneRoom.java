@@ -685,10 +685,6 @@ public final class OneRoom {
             return 1;
         }
 
-        boolean isOfSleeper(int i) {
-            return kinds[i] >= CRIED && kinds[i] <= RUNG;
-        }
-
         /** Whether it is due in a SLOT; one that is TURNED hangs on the sleeper besides. */
         boolean isDue(int i, int slot) {
             if (slot < starts[i] || slot > ends[i]) {

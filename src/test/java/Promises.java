@@ -302,8 +302,9 @@ public final class Promises {
         String[] texts = {"beds 1;", "be 1;", "7;", ";", "bed;", "bed x;", "bed 1", "bed", "bed ", "bed 1  ", "bed 100;",
             "bed 1 2;", "bed 12 345;", "board 1;", "board 1 2 3;", "bed 1;;", "bed 1;bed 2;wal 3;", "Bed 1;", "bed 1;\t",
             "bed -1;", "bed 1 bed 2;", "bed 1;bed 2;\n", "bedbed 1;", "wall wall 1;", "bed 1;wall 2", "bed\0001;", "wal",
-            "  wal", "sleeper 1 1 0 40;", "noise 1 2 3;", "out 0 0 0 0 0;", "bed 1;\u00e9", "sleeper 1 2 3 4 5"};
-        int[] faults = {0, 0, 0, 0, 3, 4, 5, 3, 4, 7, 4, 6, 7, 7, 10, 6, 12, 0, 6, 4, 6, 12, 0, 5, 12, 3, 0, 2, 16, 11, 12, 6, 17};
+            "  wal", "sleeper 1 1 0 40;", "noise 1 2 3;", "out 0 0 0 0 0;", "bed 1;\u00e9", "sleeper 1 2 3 4 5", "wallz 1;",
+            "wal{ 1;", "bed `1;", "bed 1/;", "bed 1:;"};
+        int[] faults = {0, 0, 0, 0, 3, 4, 5, 3, 4, 7, 4, 6, 7, 7, 10, 6, 12, 0, 6, 4, 6, 12, 0, 5, 12, 3, 0, 2, 16, 11, 12, 6, 17, 0, 0, 4, 5, 5};
         for (int i = 0; i < texts.length; i++) {
             due("12 fault of '" + texts[i] + "'", told(x, texts[i]), -10 - faults[i]);
         }
@@ -742,6 +743,13 @@ public final class Promises {
         due("26 a fan of 5 alone", x.worth(1, 0), 0);
         x = house("bed 1;sleeper 10 1 0 40 0;lie 0 0;noise 1 0 39 20;");
         due("26 wax of 10 alone", x.worth(0, 0), 0);
+        x = house("bed 1;sleeper 10 1 0 40 0;lie 0 0;noise 1 0 39 19;");
+        due("26 wax of 10", x.worth(0, 0), 40);
+        x = house("bed 1;sleeper 10 1 0 40 0;lie 0 0;noise 1 0 39 10;");
+        due("26 a fan beside none", x.worth(1, 0), 40);
+        x = house("fade 0;bed 1;bed 2;sleeper 1 1 2 40 0;sleeper 60 1 0 40 60;lie 0 0;lie 1 1;");
+        // she sleeps in three of six slots from 5 on, and with the ball, which is quite still, from 2 on
+        due("26 a ball leaves nothing", x.worth(3, 1), 20);
         x = house("bed 1;bed 5;sleeper 10 1 0 40 0;sleeper 60 1 6 40 0;lie 0 0;lie 1 1;board 3 40;");
         due("26 worst is the other's 34", x.worth(2, 3), 0);
         x = house("bed 1;bed 5;sleeper 10 1 0 40 0;sleeper 60 1 6 40 0;lie 0 0;lie 1 1;board 3 40;turned 0 0 39 0;"
