@@ -312,6 +312,42 @@ public final class EdgeText {
         Check.due("nobody", x.lie(0, -1), -10);
     }
 
+    /** Six beds, five sleepers, eight sounds that are told are those that come by calls. */
+    private static void fullHouse() {
+        OneRoom x = new OneRoom();
+        StringBuilder s = new StringBuilder();
+        for (int i = 0; i < 6; i++) {
+            x.bed(30 + i);
+            s.append("bed").append(30 + i).append(';');
+        }
+        for (int i = 0; i < 5; i++) {
+            x.sleeper(60 - i, 9 - i, i, 40 - i, i);
+            s.append("sleeper").append(60 - i).append(' ').append(9 - i).append(' ').append(i).append(' ').append(40 - i).append(' ')
+                    .append(i).append(';');
+            x.lie(i, 5 - i);
+            s.append("lie").append(i).append(' ').append(5 - i).append(';');
+        }
+        for (int i = 0; i < 8; i++) {
+            x.sound(0, 10 + i, i, 20 + i, 40 + i);
+            s.append("noise").append(10 + i).append(' ').append(i).append(' ').append(20 + i).append(' ').append(40 + i).append(';');
+        }
+        long full = x.digest();
+        OneRoom y = new OneRoom();
+        Check.due("all are told", Check.told(y, s.toString()), 24);
+        y.clear();
+        Check.due("a full house as by its calls", y.digest(), full);
+        y.image(0);
+        for (int i = 0; i < 8; i++) {
+            y.still();
+        }
+        for (int i = 0; i < 8; i++) {
+            y.sound(4, 0, 1, 2, 3);
+        }
+        Check.due("other sounds", y.digest() == full ? 1 : 0, 0);
+        y.from(0);
+        Check.due("all eight sounds were kept", y.digest(), full);
+    }
+
     private static void whatStays() {
         OneRoom x = Check.lived();
         long[] was = Check.state(x);
@@ -344,6 +380,7 @@ public final class EdgeText {
         refusedSounds();
         whichFirst();
         anew();
+        fullHouse();
         whatStays();
         Check.end("the text");
     }

@@ -216,6 +216,115 @@ public final class EdgeThere {
         }
     }
 
+    /** Six beds, five sleepers, eight sounds, four rules: all of them are kept. */
+    private static void fullImage() {
+        String beds = "bed 0;bed 1;bed 2;bed 3;bed 4;bed 5;", sleeper = "sleeper 1 2 3 4 5;", sound = "noise 1 2 3 4;";
+        OneRoom x = Check.house(beds + sleeper.repeat(5) + sound.repeat(8));
+        for (int i = 0; i < 5; i++) {
+            x.lie(i, i + 1);
+        }
+        for (int i = 0; i < 4; i++) {
+            x.rule(i, 5 - i, true);
+        }
+        long full = x.digest();
+        x.image(0);
+        for (String other : new String[] {"", beds.replace(" ", " 1") + "sleeper 11 3 5 39 6;".repeat(5) + "noise 5 6 7 8;".repeat(8)}) {
+            Check.due("another house is told", Check.told(x, other) < 0 ? 1 : 0, 0);
+            x.clear();
+            for (int i = 0; i < Math.min(4, x.count(2)); i++) {
+                x.rule(4 - i, i, false);
+                x.lie(4 - i, i);
+            }
+            Check.due("another", x.digest() == full ? 1 : 0, 0);
+            x.image(1);
+            long changed = x.digest();
+            x.from(0);
+            Check.due("the full one as it was kept", x.digest(), full);
+            Check.due("the last lies", x.lie(4, 5), 5);
+            Check.due("the last bed", x.bed(5), -2);
+            x.from(1);
+            Check.due("the other as it was kept", x.digest(), changed);
+        }
+    }
+
+    /** All that can be asked of a house and changes nothing. */
+    private static long[] asked(OneRoom x) {
+        java.util.List<Long> all = new java.util.ArrayList<>();
+        for (int c = 0; c < 36; c++) {
+            all.add((long) x.distance(c, 7));
+            all.add((long) x.heard(7, 40, c, c));
+            all.add((long) x.way(14, c, 0));
+            all.add((long) x.way(c, 14, 1));
+            all.add((long) x.worth(2, c));
+        }
+        for (int s = -1; s < 5; s++) {
+            all.add((long) x.slept(s));
+            all.add((long) x.is(s, 11));
+            all.add((long) x.wakes(s, -1));
+            all.add((long) x.woke(s, 1));
+            all.add((long) x.best(true, s));
+            all.add((long) x.best(false, s));
+            all.add((long) x.order(s));
+            all.add((long) x.worth(0, s));
+            all.add((long) x.worth(3, s));
+            all.add((long) x.temper(s, 14));
+        }
+        for (int i = 0; i < 5; i++) {
+            all.add((long) x.night(i));
+            all.add((long) x.count(i));
+            all.add((long) x.quarrel(1 + 40 * i));
+        }
+        all.add((long) x.worth(1, 0));
+        all.add((long) x.cost());
+        all.add((long) x.rooms());
+        all.add((long) x.screw());
+        long[] row = new long[all.size()];
+        for (int i = 0; i < row.length; i++) {
+            row[i] = all.get(i);
+        }
+        return row;
+    }
+
+    /** What was tried and was refused, or was asked of another house, leaves nothing in any answer. */
+    private static void nothingLeft() {
+        String[] tried = {"wall 1;wall 2;wall 8;wall 15;bed 30;sleeper 1 1 0 40 60;sleeper 1 1 0 40 60;lie 0 0;noise 30 0 39 60;out 0 0 39 9;"
+                + "fade 9;door 35;board 7 33;wall 30;", "wall 8;wall 0;", "sleeper 1 1 0 1 0;lie 0 0;", "fade 0;fade 10;",
+            "wall 7;wall 13;wall 14;", "bed 7;bed 14;wall 8;wall 15;wall 20;wall 13;sleeper 1 1 0 40 9;lie 1 1;"};
+        for (int k = 0; k < tried.length; k++) {
+            for (int i = 0; i < 2; i++) {
+                OneRoom x = i == 0 ? Check.lived() : two(), y = i == 0 ? Check.lived() : two();
+                if (k == 4) {
+                    // this one is let in, and gone back from
+                    x.image(1);
+                }
+                int got = Check.told(x, tried[k]);
+                Check.due("refused, or let in", got < -999 ? 0 : 1, k == 4 ? 1 : 0);
+                if (k == 4) {
+                    asked(x);
+                    x.from(1);
+                }
+                Check.row("nothing is left of " + tried[k], asked(x), asked(y));
+                Check.row("nor of what was asked", asked(x), asked(y));
+            }
+        }
+        OneRoom x = Check.lived(), y = Check.lived();
+        Check.write(x, "wall 1;wall 0;");
+        Check.due("refused", x.house(), -1001);
+        for (int c = 0; c < 36; c++) {
+            Check.due("heard behind a house that is refused", x.heard(c, 50, 2, 39), y.heard(c, 50, 2, 39));
+        }
+        x = ringing();
+        Check.write(x, "sleeper 1 1 0 40 0;lie 0 0;");
+        Check.due("refused", x.house(), -1001);
+        Check.due("rooms behind a house that is refused", x.rooms(), 4);
+    }
+
+    /** Sleeper 2 wakes the other two. */
+    private static OneRoom ringing() {
+        return Check.house("fade 0;bed 1;bed 2;bed 3;sleeper 1 1 0 40 0;sleeper 1 1 0 40 0;sleeper 60 1 0 40 0;lie 0 0;lie 1 1;lie 2 2;"
+                + "rung 2 7 7 60;");
+    }
+
     // ---- digest
 
     private static long digest(int... row) {
@@ -343,6 +452,8 @@ public final class EdgeThere {
         status();
         images();
         notKept();
+        fullImage();
+        nothingLeft();
         digests();
         fullDigest();
         Check.end("what there is");
