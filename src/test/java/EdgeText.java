@@ -185,8 +185,8 @@ public final class EdgeText {
         fault("sleeper 1 2 3 4 ", 16);
         fault("sleeper 1 2 3 4 5", 17);
         // what stood in THE TEXT ahead of clear is no part of it
-        OneRoom x = new OneRoom();
         for (String item : ITEMS) {
+            OneRoom x = new OneRoom();
             int word = item.indexOf(' ');
             for (int n = 1; n < item.length(); n++) {
                 Check.write(x, item);
@@ -197,6 +197,7 @@ public final class EdgeText {
                 Check.due("no more than is typed of " + item, x.house(), -10 - (n < word ? 0 : n));
             }
         }
+        OneRoom x = new OneRoom();
         Check.write(x, "bed 1;bed 2;bed 3;");
         x.clear();
         Check.due("empty again", x.house(), 0);

@@ -330,8 +330,8 @@ public final class Promises {
         x.clear();
         due("12 nothing changed", x.digest() == was ? 1 : 0, 1);
         statusIs("12 items", x, 0, 0, 0);
-        due("12 sixty items", told(x, "fade1;".repeat(50)), 50);
-        due("12 five bytes each", told(x, "bed1;".repeat(60)), -1001);
+        due("12 fifty items", told(new OneRoom(), "fade1;".repeat(50)), 50);
+        due("12 five bytes each", told(new OneRoom(), "bed1;".repeat(60)), -1001);
     }
 
     // ---- 13 to 19: nights
